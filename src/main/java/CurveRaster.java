@@ -466,30 +466,27 @@ public final class CurveRaster {
         }
 
         /**
-         * Below, at or above 0 as n is to times * the root of under, all above 0. The squares would not fit a long;
-         * so what is compared is n / times = q + r / times.
+         * Below, at or above 0 as n is to times * the root of under, all above 0. The squares would not fit a long; so
+         * n / times is taken as q + r / times, and its square less under, times times, as r r / times - k.
          */
-        private int compareToRoot(long n, long times) {
+        private long compareToRoot(long n, long times) {
             if (times <= 0) {
                 return 1;
             }
             long q = n / times;
             long r = n % times;
-            if (q > MOST_ROOT || q * q > under) {
+            if (q > MOST_ROOT) {
                 return 1;
             }
-            if ((q + 1) * (q + 1) <= under) {
-                return -1;
-            }
-            // now q is the root rounded down, and (q + r / times) squared is compared with under: r r / times with this
             long k = (under - q * q) * times - 2 * q * r;
             if (k < 0) {
                 return 1;
             }
             if (k > r) {
+                // r is below times, and so r r / times not above r
                 return -1;
             }
-            return Long.compare(r * r, k * times);
+            return r * r - k * times;
         }
     }
 }

@@ -7,6 +7,8 @@ public final class MoveTest {
         movesTheOpenContour();
         refusesAndLeavesAll();
         refusesBySinglePoints();
+        refusesByEachCoordinate();
+        movesAsManyAsThereCanBe();
         keepsTheHalfWays();
         anythingGoesWithoutPoints();
         DUE.end("MoveTest");
@@ -77,6 +79,37 @@ public final class MoveTest {
         DUE.refusedMove(raster, 0, 92);
         raster.move(0, 91);
         DUE.due("extent(3) moved", raster.extent(3), 4141);
+    }
+
+    private static void refusesByEachCoordinate() {
+        CurveRaster wide = Due.outline(-8000, 0, 1, 8000, 5, 1);
+        DUE.refusedMove(wide, 192, 0);
+        DUE.refusedMove(wide, -193, 0);
+        wide.move(100, 1000);
+        DUE.due("wide: extent(2)", wide.extent(2), 8100);
+        DUE.due("wide: extent(3)", wide.extent(3), 1005);
+        CurveRaster high = Due.outline(0, -8000, 1, 5, 8000, 1);
+        DUE.refusedMove(high, 0, 192);
+        DUE.refusedMove(high, 0, -193);
+        high.move(1000, 100);
+        DUE.due("high: extent(2)", high.extent(2), 1005);
+        DUE.due("high: extent(3)", high.extent(3), 8100);
+    }
+
+    private static void movesAsManyAsThereCanBe() {
+        CurveRaster raster = new CurveRaster();
+        for (int i = 0; i < 512; i++) {
+            raster.add(i, 2 * i, i % 3 == 0);
+        }
+        raster.move(1, 2);
+        raster.close();
+        raster.move(10, 20);
+        // the last point is not on: the curve by it turns just beyond the one before it, (510, 1020), moved
+        DUE.due("512 points: extent(0)", raster.extent(0), 11);
+        DUE.due("512 points: extent(2)", raster.extent(2), 522);
+        DUE.due("512 points: extent(3)", raster.extent(3), 1043);
+        DUE.due("512 points: curves", raster.count(3), 341);
+        DUE.due("512 points: pixels", raster.count(4), 0);
     }
 
     private static void keepsTheHalfWays() {

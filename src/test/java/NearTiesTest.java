@@ -17,9 +17,10 @@ public final class NearTiesTest {
                 curve[k] = great ? random.nextInt(16384) - 8192 : random.nextInt(2048);
             }
             int y = great ? random.nextInt(16384) - 8192 : random.nextInt(2048);
-            askIfNear(curve, y, 1);
-            askIfNear(curve, y, -1);
+            askIfNear(curve, y, 1, NEXT_TO_NOTHING);
+            askIfNear(curve, y, -1, NEXT_TO_NOTHING);
         }
+        askGreatestCurves();
         for (int i = 0; i < 4000; i++) {
             int[] curve = new int[6];
             for (int k = 0; k < 6; k++) {
@@ -30,7 +31,24 @@ public final class NearTiesTest {
         DUE.end("NearTiesTest");
     }
 
-    private static void askIfNear(int[] curve, int y, int sense) {
+    /** All curves from corner to corner of what can be told: the greatest numbers that come up inside. */
+    private static void askGreatestCurves() {
+        int[] heights = {-8192, -8191, -5000, -1, 0, 1, 4095, 4096, 8189, 8190};
+        for (int corners = 0; corners < 64; corners++) {
+            int[] curve = new int[6];
+            for (int k = 0; k < 6; k++) {
+                curve[k] = (corners >> k & 1) == 0 ? -8192 : 8191;
+            }
+            for (int y : heights) {
+                askIfNear(curve, y, 1, 1);
+                askIfNear(curve, y, -1, 1);
+                askRound(curve, -16383, y);
+                askRound(curve, 16382, y);
+            }
+        }
+    }
+
+    private static void askIfNear(int[] curve, int y, int sense, double nearness) {
         double a = curve[1] - 2.0 * curve[3] + curve[5];
         double b = 2.0 * (curve[3] - curve[1]);
         double under = b * b - 4 * a * (curve[1] - y);
@@ -42,7 +60,7 @@ public final class NearTiesTest {
             return;
         }
         double x = (1 - t) * (1 - t) * curve[0] + 2 * t * (1 - t) * curve[2] + t * t * curve[4];
-        if (Math.abs(x - Math.rint(x)) < NEXT_TO_NOTHING) {
+        if (Math.abs(x - Math.rint(x)) < nearness) {
             askRound(curve, (int) Math.rint(x), y);
         }
     }
