@@ -6,12 +6,18 @@ final class Due {
 
     private int wrong = 0;
     private int asked = 0;
+    private String about = "";
+
+    /** The sentence of the document that the answers from here on are due to: printed before one that is wrong. */
+    void about(String sentence) {
+        about = "[" + sentence + "] ";
+    }
 
     void due(String call, long got, long want) {
         asked++;
         if (got != want) {
             wrong++;
-            System.out.println(call + " answered " + got + ", due is " + want);
+            System.out.println(about + call + " answered " + got + ", due is " + want);
         }
     }
 
@@ -31,7 +37,19 @@ final class Due {
             got = "threw " + e;
         }
         wrong++;
-        System.out.println(call + " " + got + ", due is a " + want.getSimpleName());
+        System.out.println(about + call + " " + got + ", due is a " + want.getSimpleName());
+    }
+
+    /** What one answers, or throws, is due from the other. */
+    void same(String call, Call got, Call want) {
+        long wanted;
+        try {
+            wanted = want.answer();
+        } catch (RuntimeException e) {
+            refused(call, e.getClass(), got);
+            return;
+        }
+        due(call, got.answer(), wanted);
     }
 
     void refusedMove(CurveRaster raster, int dx, int dy) {

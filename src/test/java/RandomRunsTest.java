@@ -153,14 +153,6 @@ public final class RandomRunsTest {
     }
 
     private void same(int call, String text, Due.Call got, Due.Call want) {
-        String label = name + "call " + call + ": " + text;
-        long wanted;
-        try {
-            wanted = want.answer();
-        } catch (RuntimeException e) {
-            due.refused(label, e.getClass(), got);
-            return;
-        }
-        due.due(label, got.answer(), wanted);
+        due.same(name + "call " + call + ": " + text, got, want);
     }
 }

@@ -172,11 +172,11 @@ public final class WindingTest {
         winding("64 boxes", raster, 500, 500, 64);
         winding("64 boxes", raster, 10, 500, 11);
         winding("64 boxes", raster, 990, 500, 10);
-        raster.clear();
+        CurveRaster bothWays = new CurveRaster();
         for (int i = 0; i < 32; i++) {
-            Due.box(raster, 0, 0, 100, 100);
-            Due.contour(raster, 0, 0, 1, 100, 0, 1, 100, 100, 1, 0, 100, 1);
+            Due.box(bothWays, 0, 0, 100, 100);
+            Due.contour(bothWays, 0, 0, 1, 100, 0, 1, 100, 100, 1, 0, 100, 1);
         }
-        winding("32 each way", raster, 50, 50, 0);
+        winding("32 each way", bothWays, 50, 50, 0);
     }
 }
