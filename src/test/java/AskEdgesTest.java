@@ -6,32 +6,32 @@ public final class AskEdgesTest {
     private static final int[] NO_INDICES = {MIN, MIN + 63, -64, -2, -1, 64, 65, 127, 128, 4096, MAX - 63, MAX};
 
     public static void main(String[] args) {
-        countContours();
-        countPoints();
-        countLinesAndCurves();
-        countPixels();
-        countNone();
-        windingOfNothing();
-        windingAtTheLimits();
-        windingCoordinateIsNot();
-        rowBitXIsPixelX();
-        rowNoneSuch();
-        shareNoneSuch();
-        shareOfTheCorners();
-        spansNoneAndMost();
-        spansNoneSuch();
-        spanFromTheLeft();
-        spanThePlaceBehind();
-        spanNoneIfNoneSuch();
-        spanNoSuchRow();
-        extentNotAboveTheLeast();
-        extentNotBelowTheGreatest();
-        extentOfCurvesThatDoNotTurn();
-        extentAtTheLimits();
-        extentOfAllLinesAndCurves();
-        extentAnotherWhat();
-        extentNoContours();
-        extentFirstExceptionWins();
+        DUE.part(AskEdgesTest::countContours);
+        DUE.part(AskEdgesTest::countPoints);
+        DUE.part(AskEdgesTest::countLinesAndCurves);
+        DUE.part(AskEdgesTest::countPixels);
+        DUE.part(AskEdgesTest::countNone);
+        DUE.part(AskEdgesTest::windingOfNothing);
+        DUE.part(AskEdgesTest::windingAtTheLimits);
+        DUE.part(AskEdgesTest::windingCoordinateIsNot);
+        DUE.part(AskEdgesTest::rowBitXIsPixelX);
+        DUE.part(AskEdgesTest::rowNoneSuch);
+        DUE.part(AskEdgesTest::shareNoneSuch);
+        DUE.part(AskEdgesTest::shareOfTheCorners);
+        DUE.part(AskEdgesTest::spansNoneAndMost);
+        DUE.part(AskEdgesTest::spansNoneSuch);
+        DUE.part(AskEdgesTest::spanFromTheLeft);
+        DUE.part(AskEdgesTest::spanThePlaceBehind);
+        DUE.part(AskEdgesTest::spanNoneIfNoneSuch);
+        DUE.part(AskEdgesTest::spanNoSuchRow);
+        DUE.part(AskEdgesTest::extentNotAboveTheLeast);
+        DUE.part(AskEdgesTest::extentNotBelowTheGreatest);
+        DUE.part(AskEdgesTest::extentOfCurvesThatDoNotTurn);
+        DUE.part(AskEdgesTest::extentAtTheLimits);
+        DUE.part(AskEdgesTest::extentOfAllLinesAndCurves);
+        DUE.part(AskEdgesTest::extentAnotherWhat);
+        DUE.part(AskEdgesTest::extentNoContours);
+        DUE.part(AskEdgesTest::extentFirstExceptionWins);
         DUE.end("AskEdgesTest");
     }
 

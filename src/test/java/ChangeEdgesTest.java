@@ -5,29 +5,29 @@ public final class ChangeEdgesTest {
     private static final int MAX = Integer.MAX_VALUE;
 
     public static void main(String[] args) {
-        newNothing();
-        newNotByParity();
-        addHowMany();
-        addCoordinateIsNot();
-        addThereAre512();
-        addFirstExceptionWins();
-        closeHowMany();
-        closeNoPoints();
-        closeThereAre64();
-        closeNeither();
-        dropPointsAreGone();
-        dropHowMany();
-        clearAllAreGone();
-        clearHowMany();
-        clearMakesRoom();
-        moveAllPoints();
-        moveToTheLimits();
-        moveWouldNotBe();
-        moveByPointsNotSeen();
-        moveSumsBeyondAnInt();
-        moveNoPoints();
-        parityFromNowOn();
-        parityWhetherItWas();
+        DUE.part(ChangeEdgesTest::newNothing);
+        DUE.part(ChangeEdgesTest::newNotByParity);
+        DUE.part(ChangeEdgesTest::addHowMany);
+        DUE.part(ChangeEdgesTest::addCoordinateIsNot);
+        DUE.part(ChangeEdgesTest::addThereAre512);
+        DUE.part(ChangeEdgesTest::addFirstExceptionWins);
+        DUE.part(ChangeEdgesTest::closeHowMany);
+        DUE.part(ChangeEdgesTest::closeNoPoints);
+        DUE.part(ChangeEdgesTest::closeThereAre64);
+        DUE.part(ChangeEdgesTest::closeNeither);
+        DUE.part(ChangeEdgesTest::dropPointsAreGone);
+        DUE.part(ChangeEdgesTest::dropHowMany);
+        DUE.part(ChangeEdgesTest::clearAllAreGone);
+        DUE.part(ChangeEdgesTest::clearHowMany);
+        DUE.part(ChangeEdgesTest::clearMakesRoom);
+        DUE.part(ChangeEdgesTest::moveAllPoints);
+        DUE.part(ChangeEdgesTest::moveToTheLimits);
+        DUE.part(ChangeEdgesTest::moveWouldNotBe);
+        DUE.part(ChangeEdgesTest::moveByPointsNotSeen);
+        DUE.part(ChangeEdgesTest::moveSumsBeyondAnInt);
+        DUE.part(ChangeEdgesTest::moveNoPoints);
+        DUE.part(ChangeEdgesTest::parityFromNowOn);
+        DUE.part(ChangeEdgesTest::parityWhetherItWas);
         DUE.end("ChangeEdgesTest");
     }
 

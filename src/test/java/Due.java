@@ -52,6 +52,17 @@ final class Due {
         due(call, got.answer(), wanted);
     }
 
+    /** A part of a test: what it throws unforeseen is wrong too, and the parts behind it are still run. */
+    void part(Runnable part) {
+        try {
+            part.run();
+        } catch (RuntimeException e) {
+            asked++;
+            wrong++;
+            System.out.println(about + "threw " + e);
+        }
+    }
+
     void refusedMove(CurveRaster raster, int dx, int dy) {
         refused("move(" + dx + ", " + dy + ")", IllegalArgumentException.class, () -> {
             raster.move(dx, dy);

@@ -3,31 +3,31 @@ public final class TermsEdgesTest {
     private static final Due DUE = new Due();
 
     public static void main(String[] args) {
-        usedFor512Calls();
-        as512CallsCanTell();
-        upTo64Contours();
-        upTo512Points();
-        limitsOfCoordinates();
-        pointsAreARing();
-        inTheOrderTold();
-        halfWayBetweenTwoNotOn();
-        halfWayRoundedDown();
-        itsOwnNeighbour();
-        fromOneAloneToItself();
-        endsMaybeTheSame();
-        curveFrom0To1();
-        notAboveAndAbove();
-        notToTheRight();
-        touchesFromAbove();
-        touchesFromBelow();
-        sumForAllContours();
-        inIfNot0();
-        inByParityIfOdd();
-        pixelsOfThePicture();
-        middlesOfPixels();
-        sixteenPointsOfAShare();
-        longestRowsOfPixels();
-        openPointsAreNotSeen();
+        DUE.part(TermsEdgesTest::usedFor512Calls);
+        DUE.part(TermsEdgesTest::as512CallsCanTell);
+        DUE.part(TermsEdgesTest::upTo64Contours);
+        DUE.part(TermsEdgesTest::upTo512Points);
+        DUE.part(TermsEdgesTest::limitsOfCoordinates);
+        DUE.part(TermsEdgesTest::pointsAreARing);
+        DUE.part(TermsEdgesTest::inTheOrderTold);
+        DUE.part(TermsEdgesTest::halfWayBetweenTwoNotOn);
+        DUE.part(TermsEdgesTest::halfWayRoundedDown);
+        DUE.part(TermsEdgesTest::itsOwnNeighbour);
+        DUE.part(TermsEdgesTest::fromOneAloneToItself);
+        DUE.part(TermsEdgesTest::endsMaybeTheSame);
+        DUE.part(TermsEdgesTest::curveFrom0To1);
+        DUE.part(TermsEdgesTest::notAboveAndAbove);
+        DUE.part(TermsEdgesTest::notToTheRight);
+        DUE.part(TermsEdgesTest::touchesFromAbove);
+        DUE.part(TermsEdgesTest::touchesFromBelow);
+        DUE.part(TermsEdgesTest::sumForAllContours);
+        DUE.part(TermsEdgesTest::inIfNot0);
+        DUE.part(TermsEdgesTest::inByParityIfOdd);
+        DUE.part(TermsEdgesTest::pixelsOfThePicture);
+        DUE.part(TermsEdgesTest::middlesOfPixels);
+        DUE.part(TermsEdgesTest::sixteenPointsOfAShare);
+        DUE.part(TermsEdgesTest::longestRowsOfPixels);
+        DUE.part(TermsEdgesTest::openPointsAreNotSeen);
         DUE.end("TermsEdgesTest");
     }
 

@@ -44,7 +44,7 @@ public final class TermsTest {
         compareWithDocument();
         for (Sentence sentence : SENTENCES) {
             DUE.about(sentence.text());
-            sentence.test().run();
+            DUE.part(sentence.test());
         }
         DUE.end("TermsTest");
     }
